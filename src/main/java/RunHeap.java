@@ -284,10 +284,10 @@ public final class RunHeap {
             kinds[block] = is ? PINNED : LIVE;
         }
 
-        /** A new live block at the lowest multiple of step where it fits; 0 if there is none. */
+        /** A new live block at the lowest multiple of step, a power of 2, where it fits; else 0. */
         int takeLowest(int length, int step) {
             for (int b = 1; b <= groups; b += Math.max(1, lengths[b])) {
-                int at = (b + step - 1) / step * step;
+                int at = (b + step - 1) & -step;
                 if (kinds[b] == FREE && at - b + length <= lengths[b]) {
                     carve(b, at, length);
                     clear(at, at + length);
@@ -415,7 +415,6 @@ public final class RunHeap {
         /** Out of a free block a live one is cut; what is before it and behind it stays free. */
         private void carve(int block, int at, int length) {
             int end = block + lengths[block];
-            erase(block);
             put(block, at - block, FREE);
             put(at, length, LIVE);
             put(at + length, end - at - length, FREE);

@@ -28,6 +28,7 @@ public final class PromiseTest {
         run(15, PromiseTest::advise);
         run(15, PromiseTest::adviseOrder);
         run(15, PromiseTest::adviseLimit);
+        run(15, PromiseTest::adviseMostVictims);
         run(16, PromiseTest::window);
         run(16, PromiseTest::howLongAdviceIsThere);
         run(17, PromiseTest::move);
@@ -378,6 +379,14 @@ public final class PromiseTest {
             due("count(" + what + ") of a full heap", full.count(what), dueOfFull[what]);
         }
         due("count(4) of a new heap", new RunHeap(16).count(4), 1);
+        RunHeap last = heapOf(24, -3, 3, -3, 3, -3);
+        int[] dueOfLast = {3, 12, 2, 0, 3};
+        for (int what = 0; what < dueOfLast.length; what++) {
+            due("count(" + what + ") with the last group free", last.count(what), dueOfLast[what]);
+        }
+        due("freeAt(2)", last.freeAt(2), 20);
+        due("largest()", last.largest(), 4);
+        due("branch(12, 1)", last.branch(12, 1), 20);
     }
 
     private static void depthOfChains() {
@@ -439,6 +448,8 @@ public final class PromiseTest {
         due("advise(12): the lowest of several", x.advise(12), 0);
         due("window()", x.window(), 24);
         due("advise(4)", x.advise(4), 0);
+        due("window()", x.window(), 8);
+        due("advise(1)", x.advise(1), 0);
         due("window()", x.window(), 8);
         due("advise(17): one victim", x.advise(17), 1);
         due("window()", x.window(), 40);
@@ -514,6 +525,29 @@ public final class PromiseTest {
         due("window()", x.window(), -1);
         x.free(8);
         due("advise(4) with 128 live blocks", x.advise(4), 0);
+    }
+
+    /** No window but that of all 128 live blocks can be cleared into what lies on both sides of it. */
+    private static void adviseMostVictims() {
+        RunHeap x = new RunHeap(1035);
+        x.give(255);
+        for (int i = 0; i < 128; i++) {
+            x.give(i == 64 ? 7 : 3);
+        }
+        x.free(4);
+        due("largest()", x.largest(), 260);
+        due("advise(516)", x.advise(516), 128);
+        due("window()", x.window(), 260);
+        due("move(0, 0): the largest", x.move(0, 0), 516);
+        due("move(0, 1)", x.move(0, 1), 4);
+        due("move(62, 1): the last before the window", x.move(62, 1), 256);
+        due("move(63, 1): the first behind it", x.move(63, 1), 776);
+        due("move(127, 0)", x.move(127, 0), 772);
+        due("move(127, 1)", x.move(127, 1), 1032);
+        outOfBounds("move(128, 0)", () -> x.move(128, 0));
+        due("apply()", x.apply(), 128);
+        dueFree(x, new int[][] {{260, 516}});
+        due("moved(772)", x.moved(772), 1032);
     }
 
     private static void window() {
