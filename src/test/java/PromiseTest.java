@@ -1,98 +1,32 @@
-import java.util.NoSuchElementException;
-
 /** Each promise of the document by hand: ordinary inputs, the edges it names, wrong inputs. */
-public final class PromiseTest {
-
-    private static final int MIN = Integer.MIN_VALUE;
-    private static final int MAX = Integer.MAX_VALUE;
-
-    private static int promise = 0;
-    private static int wrong = 0;
+public final class PromiseTest extends Checks {
 
     public static void main(String[] args) {
-        run(1, PromiseTest::newObject);
-        run(2, PromiseTest::give);
-        run(3, PromiseTest::giveAligned);
-        run(4, PromiseTest::free);
-        run(5, PromiseTest::grow);
-        run(6, PromiseTest::trim);
-        run(7, PromiseTest::pin);
-        run(8, PromiseTest::get);
-        run(9, PromiseTest::set);
-        run(10, PromiseTest::sizeOf);
-        run(11, PromiseTest::largest);
-        run(12, PromiseTest::count);
-        run(12, PromiseTest::depthOfChains);
-        run(13, PromiseTest::freeAt);
-        run(14, PromiseTest::branch);
-        run(15, PromiseTest::advise);
-        run(15, PromiseTest::adviseOrder);
-        run(15, PromiseTest::adviseLimit);
-        run(15, PromiseTest::adviseMostVictims);
-        run(16, PromiseTest::window);
-        run(16, PromiseTest::howLongAdviceIsThere);
-        run(17, PromiseTest::move);
-        run(18, PromiseTest::apply);
-        run(18, PromiseTest::applyBesideTheWindow);
-        run(19, PromiseTest::moved);
-        System.out.println(wrong == 0 ? "all promises hold" : wrong + " answers are not as due");
-        if (wrong != 0) {
-            System.exit(1);
-        }
-    }
-
-    private static void run(int number, Runnable test) {
-        promise = number;
-        try {
-            test.run();
-        } catch (RuntimeException e) {
-            wrong++;
-            System.out.println("promise " + promise + ": threw " + e);
-        }
-    }
-
-    private static void due(String call, Object got, Object want) {
-        if (!got.equals(want)) {
-            wrong++;
-            System.out.println("promise " + promise + ": " + call + " answered " + got + ", due is " + want);
-        }
-    }
-
-    private static void dueThrow(String call, Class<?> want, Runnable body) {
-        Object got = "nothing thrown";
-        try {
-            body.run();
-        } catch (RuntimeException e) {
-            got = e.getClass();
-        }
-        due(call, got, want);
-    }
-
-    private static void noSuch(String call, Runnable body) {
-        dueThrow(call, NoSuchElementException.class, body);
-    }
-
-    private static void outOfBounds(String call, Runnable body) {
-        dueThrow(call, IndexOutOfBoundsException.class, body);
-    }
-
-    private static void badArgument(String call, Runnable body) {
-        dueThrow(call, IllegalArgumentException.class, body);
-    }
-
-    /** Payloads given one after the other on a new heap; those below 0 are freed afterwards. */
-    private static RunHeap heapOf(int words, int... payloads) {
-        RunHeap x = new RunHeap(words);
-        int[] at = new int[payloads.length];
-        for (int i = 0; i < payloads.length; i++) {
-            at[i] = x.give(Math.abs(payloads[i]));
-        }
-        for (int i = 0; i < payloads.length; i++) {
-            if (payloads[i] < 0) {
-                x.free(at[i]);
-            }
-        }
-        return x;
+        run("promise 1", PromiseTest::newObject);
+        run("promise 2", PromiseTest::give);
+        run("promise 3", PromiseTest::giveAligned);
+        run("promise 4", PromiseTest::free);
+        run("promise 5", PromiseTest::grow);
+        run("promise 6", PromiseTest::trim);
+        run("promise 7", PromiseTest::pin);
+        run("promise 8", PromiseTest::get);
+        run("promise 9", PromiseTest::set);
+        run("promise 10", PromiseTest::sizeOf);
+        run("promise 11", PromiseTest::largest);
+        run("promise 12", PromiseTest::count);
+        run("promise 12", PromiseTest::depthOfChains);
+        run("promise 13", PromiseTest::freeAt);
+        run("promise 14", PromiseTest::branch);
+        run("promise 15", PromiseTest::advise);
+        run("promise 15", PromiseTest::adviseOrder);
+        run("promise 15", PromiseTest::adviseLimit);
+        run("promise 15", PromiseTest::adviseMostVictims);
+        run("promise 16", PromiseTest::window);
+        run("promise 17", PromiseTest::move);
+        run("promise 18", PromiseTest::apply);
+        run("promise 18", PromiseTest::applyBesideTheWindow);
+        run("promise 19", PromiseTest::moved);
+        end("all promises hold");
     }
 
     private static void newObject() {
@@ -395,8 +329,6 @@ public final class PromiseTest {
             equal.giveAligned(3, 8);
         }
         due("count(4): 512 equal ones, each to the right of the last", equal.count(4), 512);
-        due("branch(4, 1)", equal.branch(4, 1), 12);
-        due("branch(4, 0)", equal.branch(4, 0), 0);
         RunHeap rising = heapOf(100, -3, 3, -7, 3, -11, 3, -15, 3, 35);
         due("count(4) rising", rising.count(4), 4);
         RunHeap falling = heapOf(100, -15, 3, -11, 3, -7, 3, -3, 3, 39);
@@ -499,14 +431,6 @@ public final class PromiseTest {
         dueMoves(fits, new int[][] {{32, 12}, {28, 4}, {40, 20}});
     }
 
-    private static void dueMoves(RunHeap x, int[][] moves) {
-        due("count(3)", x.count(3), moves.length);
-        for (int i = 0; i < moves.length; i++) {
-            due("move(" + i + ", 0)", x.move(i, 0), moves[i][0]);
-            due("move(" + i + ", 1)", x.move(i, 1), moves[i][1]);
-        }
-    }
-
     private static void adviseLimit() {
         RunHeap x = new RunHeap(4096);
         for (int i = 0; i < 128; i++) {
@@ -563,63 +487,6 @@ public final class PromiseTest {
         x.advise(4);
         x.advise(1000);
         due("window() behind a refused advise", x.window(), -1);
-    }
-
-    private static void howLongAdviceIsThere() {
-        ends("give(1)", x -> x.give(1), true);
-        ends("give(0)", x -> x.give(0), false);
-        ends("give(99)", x -> x.give(99), false);
-        ends("giveAligned(1, 8)", x -> x.giveAligned(1, 8), true);
-        ends("giveAligned(1, 3)", x -> x.giveAligned(1, 3), false);
-        ends("giveAligned(1, 64)", x -> x.giveAligned(1, 64), false);
-        ends("free(4)", x -> x.free(4), true);
-        ends("free(8)", x -> x.free(8), false);
-        ends("grow(4, 7)", x -> x.grow(4, 7), true);
-        ends("grow(4, 3), which changes nothing", x -> x.grow(4, 3), true);
-        ends("grow(4, 8)", x -> x.grow(4, 8), false);
-        ends("grow(4, 0)", x -> x.grow(4, 0), false);
-        ends("grow(8, 1)", x -> x.grow(8, 1), false);
-        ends("trim(12, 3)", x -> x.trim(12, 3), true);
-        ends("trim(12, 7), which changes nothing", x -> x.trim(12, 7), true);
-        ends("trim(12, 8)", x -> x.trim(12, 8), false);
-        ends("trim(8, 1)", x -> x.trim(8, 1), false);
-        ends("pin(4, true)", x -> x.pin(4, true), true);
-        ends("pin(4, false), which changes nothing", x -> x.pin(4, false), true);
-        ends("pin(8, true)", x -> x.pin(8, true), false);
-        ends("set(4, 0, 1)", x -> x.set(4, 0, 1), false);
-        ends("advise(0)", x -> x.advise(0), true);
-        ends("advise(1000)", x -> x.advise(1000), true);
-        ends("apply()", RunHeap::apply, true);
-        ends("the queries", PromiseTest::queries, false);
-    }
-
-    private interface Use {
-        void on(RunHeap x);
-    }
-
-    private static void ends(String call, Use use, boolean isEnd) {
-        for (int victims = 0; victims < 2; victims++) {
-            RunHeap x = heapOf(60, 3, -3, 7, 3, -11, 3, 3);
-            due("advise", x.advise(victims == 0 ? 12 : 20), victims);
-            use.on(x);
-            int window = victims == 0 ? 24 : 40;
-            due("window() behind " + call, x.window(), isEnd ? -1 : window);
-            due("count(3) behind " + call, x.count(3), isEnd ? 0 : victims);
-            due("apply() behind " + call, x.apply(), isEnd ? -1 : victims);
-        }
-    }
-
-    private static void queries(RunHeap x) {
-        x.get(4, 0);
-        x.sizeOf(4);
-        x.largest();
-        x.freeAt(0);
-        x.branch(8, 0);
-        x.window();
-        x.moved(40);
-        for (int what = 0; what < 5; what++) {
-            x.count(what);
-        }
     }
 
     private static void move() {
