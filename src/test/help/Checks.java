@@ -34,7 +34,8 @@ abstract class Checks {
     static void due(String call, Object got, Object want) {
         if (!got.equals(want)) {
             wrong++;
-            System.out.println(part + ": " + call + " answered " + got + ", due is " + want);
+            String where = part.isEmpty() ? "" : part + ": ";
+            System.out.println(where + call + " answered " + got + ", due is " + want);
         }
     }
 

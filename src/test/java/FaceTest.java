@@ -6,8 +6,11 @@ import java.util.Arrays;
 import java.util.Set;
 import java.util.TreeSet;
 
-/** The class has the document's face and nothing else that is not private. */
-public final class FaceTest {
+/**
+ * The class has the document's face and nothing else that is not private, and keeps to what can be
+ * seen from outside of the rules of LANGUAGE.md.
+ */
+public final class FaceTest extends Checks {
 
     private static final String[] FACE = {
         "public static final int RunHeap.NONE",
@@ -34,7 +37,35 @@ public final class FaceTest {
         "public int RunHeap.apply()",
         "public int RunHeap.moved(int)"};
 
+    private static final int MOST_CLASSES = 12;
+    private static final int MOST_FIELDS = 20;
+    private static final int MOST_PARAMETERS = 7;
+
     public static void main(String[] args) {
+        due("public and final", isPublicFinal(RunHeap.class.getModifiers()), true);
+        due("the face", face(), new TreeSet<>(Arrays.asList(FACE)));
+        Class<?>[] inside = RunHeap.class.getDeclaredClasses();
+        due("few classes", inside.length < MOST_CLASSES, true);
+        dueNoNameOfTheFace(RunHeap.class);
+        dueRules(RunHeap.class);
+        for (Class<?> c : inside) {
+            due(c + " is static", Modifier.isStatic(c.getModifiers()), true);
+            due(c + " is seen from outside", isOpen(c.getModifiers()), false);
+            dueNoNameOfTheFace(c);
+            dueRules(c);
+        }
+        end("the face is the document's");
+    }
+
+    private static boolean isPublicFinal(int modifiers) {
+        return Modifier.isPublic(modifiers) && Modifier.isFinal(modifiers);
+    }
+
+    private static boolean isOpen(int modifiers) {
+        return Modifier.isPublic(modifiers) || Modifier.isProtected(modifiers);
+    }
+
+    private static Set<String> face() {
         Set<String> seen = new TreeSet<>();
         for (Field f : RunHeap.class.getDeclaredFields()) {
             note(seen, f.getModifiers(), f.toGenericString());
@@ -45,18 +76,46 @@ public final class FaceTest {
         for (Method m : RunHeap.class.getDeclaredMethods()) {
             note(seen, m.getModifiers(), m.toGenericString());
         }
-        Set<String> due = new TreeSet<>(Arrays.asList(FACE));
-        int modifiers = RunHeap.class.getModifiers();
-        boolean right = seen.equals(due) && Modifier.isPublic(modifiers) && Modifier.isFinal(modifiers);
-        System.out.println(right ? "the face is the document's" : "the face is " + seen + ", due is " + due);
-        if (!right) {
-            System.exit(1);
-        }
+        return seen;
     }
 
     private static void note(Set<String> seen, int modifiers, String text) {
         if (!Modifier.isPrivate(modifiers)) {
             seen.add(text);
+        }
+    }
+
+    private static Set<String> namesOfTheFace() {
+        Set<String> names = new TreeSet<>();
+        for (Method m : RunHeap.class.getDeclaredMethods()) {
+            if (Modifier.isPublic(m.getModifiers())) {
+                names.add(m.getName());
+            }
+        }
+        return names;
+    }
+
+    private static void dueNoNameOfTheFace(Class<?> c) {
+        for (Method m : c.getDeclaredMethods()) {
+            if (!Modifier.isPublic(m.getModifiers())) {
+                due(m + " bears a name of the face", namesOfTheFace().contains(m.getName()), false);
+            }
+        }
+    }
+
+    /** Rules 5 and 11 of LANGUAGE.md. */
+    private static void dueRules(Class<?> c) {
+        int fields = 0;
+        for (Field f : c.getDeclaredFields()) {
+            if (Modifier.isStatic(f.getModifiers())) {
+                due(f + " is final", Modifier.isFinal(f.getModifiers()), true);
+            } else {
+                fields++;
+            }
+        }
+        due(c + " has few fields", fields <= MOST_FIELDS, true);
+        for (Method m : c.getDeclaredMethods()) {
+            due(m + " has few parameters", m.getParameterCount() <= MOST_PARAMETERS, true);
         }
     }
 }

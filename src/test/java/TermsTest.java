@@ -4,6 +4,7 @@ import java.util.Arrays;
 public final class TermsTest extends Checks {
 
     public static void main(String[] args) {
+        run("all memory is its own", TermsTest::ownMemory);
         run("each of 4, 8, 12, .. words, up to the last whole group of four", TermsTest::lastWholeGroup);
         run("its first word is the heap's own, its address is a multiple of 4", TermsTest::addresses);
         run("divided into blocks without a gap", TermsTest::noGap);
@@ -28,6 +29,36 @@ public final class TermsTest extends Checks {
         run("or other advice is asked for", TermsTest::untilOtherAdvice);
         run("the advice is there through all other calls", TermsTest::stays);
         end("all terms hold");
+    }
+
+    /** One heap with blocks, marks, pins, moves and advice; others of its size get quite other calls. */
+    private static void ownMemory() {
+        RunHeap before = new RunHeap(59);
+        RunHeap x = rowOf(4, -4, 8, 4, -12, 4, 4, -16);
+        RunHeap behind = new RunHeap(59);
+        dueRow("of one made before", before, -56);
+        dueRow("of one made behind", behind, -56);
+        mark(x, 12, 100);
+        pin(x, 36);
+        dueAdvice(x, 20, 1, 40);
+        due("give(55)", behind.give(55), 4);
+        dueMarks(behind, 4, 0, 0);
+        mark(behind, 4, 500);
+        dueNoAdvice("of another", behind);
+        dueAdvice(rowOf(-4, 4, -4), 8, 1, 4);
+        dueMarks(x, 12, 100, 7);
+        due("window()", x.window(), 40);
+        dueMoves(x, new int[][] {{40, 8}});
+        due("apply()", x.apply(), 1);
+        due("moved(40)", x.moved(40), 8);
+        due("moved(40) of another", behind.moved(40), NONE);
+        dueAdvice(before, 56, 0, 4);
+        due("apply() of another", before.apply(), 0);
+        due("moved(40) still", x.moved(40), 8);
+        dueMarks(behind, 4, 500, 55);
+        dueRow("in the end", x, 4, 4, 8, 4, -12, 4, -20);
+        dueRow("of one made before, in the end", before, -56);
+        dueRow("of one made behind, in the end", behind, 56);
     }
 
     private static int lastWholeGroupOf(int words) {
